@@ -91,6 +91,14 @@ public final class LoopTellsPromises {
     due("2 a ninth", x.order(0), -1);
     due("2 still eight", x.look(0), 8);
     due("2 the last one stays", x.look(17), number(0, 7));
+
+    LoopTells y = with(branch(2, 1));
+    y.watch(8, 1);
+    due("2 before", y.silent() && y.reached() == 1 && y.cure(2) == 2, true);
+    y.order(add(0, 2));
+    due("2 what was known is forgotten", y.silent(), false);
+    due("2 and what was reached", y.reached(), 3);
+    due("2 and the cures", y.cure(2), 4);
   }
 
   private static void promise3Change() {
@@ -217,6 +225,10 @@ public final class LoopTellsPromises {
     due("7 the set again", x.look(3), 4);
     x.even(1, true);
     due("7 no line is seen", x.run(0, 3, 4), 2);
+    LoopTells round = with(times(0, 2), jump(0));
+    round.even(0, true);
+    round.even(1, true);
+    due("7 each step costs so", round.run(0, 0, 1), 20 * 33 + 20);
   }
 
   private static void promise8Price() {
@@ -279,6 +291,10 @@ public final class LoopTellsPromises {
     due("10 branch stays", with(branch(0, 2), number(0, 5)).run(1, 0, 0), 5);
     due("10 jump", with(jump(2), number(0, 5), add(0, 0)).run(1, 0, 0), 2);
     due("10 store, then load", with(store(0, 3), load(2, 3), add(0, 2)).run(3, 5, 0), 6);
+    LoopTells high = with(number(3, 13), store(0, 3), number(1, 1), load(0, 1));
+    high.word(1, 11);
+    due("10 word 5 is not word 1", high.run(3, 5, 0), 11);
+    due("10 its line", high.seen(3, 5, 0, 2), 5);
     LoopTells wrap = with(load(0, 1), add(0, 0));
     wrap.word(0, Integer.MIN_VALUE);
     due("10 ints wrap", wrap.run(0, 0, 0), 0);
