@@ -1,11 +1,16 @@
 import java.io.IOException;
+import java.lang.reflect.Array;
 import java.lang.reflect.Constructor;
 import java.lang.reflect.Field;
 import java.lang.reflect.Method;
 import java.lang.reflect.Modifier;
 import java.nio.file.Files;
 import java.nio.file.Path;
+import java.util.ArrayDeque;
 import java.util.Arrays;
+import java.util.Collections;
+import java.util.Deque;
+import java.util.IdentityHashMap;
 import java.util.Set;
 import java.util.TreeSet;
 import java.util.regex.Matcher;
@@ -79,6 +84,72 @@ public final class LoopTellsLanguage {
     }
   }
 
+  private static void checkSizes() {
+    Class<?>[] inside = LoopTells.class.getDeclaredClasses();
+    due("twelve classes at most", inside.length < 12);
+    checkFieldCount(LoopTells.class);
+    for (Class<?> type : inside) {
+      checkFieldCount(type);
+    }
+  }
+
+  private static void checkFieldCount(Class<?> type) {
+    long held = 0;
+    for (Field f : type.getDeclaredFields()) {
+      held += Modifier.isStatic(f.getModifiers()) ? 0 : 1;
+    }
+    due(type + " has twenty fields at most", held <= 20);
+  }
+
+  /** How many objects and arrays are held (first), and their fields and elements (second). */
+  private static long[] roomOf(Object root) throws IllegalAccessException {
+    Set<Object> held = Collections.newSetFromMap(new IdentityHashMap<>());
+    Deque<Object> open = new ArrayDeque<>();
+    open.add(root);
+    long elements = 0;
+    while (!open.isEmpty()) {
+      Object o = open.remove();
+      if (!held.add(o)) {
+        continue;
+      }
+      if (o.getClass().isArray()) {
+        elements += Array.getLength(o);
+        for (int i = 0; !o.getClass().getComponentType().isPrimitive() && i < Array.getLength(o); i++) {
+          open.add(Array.get(o, i));
+        }
+        continue;
+      }
+      for (Field f : o.getClass().getDeclaredFields()) {
+        if (!Modifier.isStatic(f.getModifiers())) {
+          f.setAccessible(true);
+          elements++;
+          if (!f.getType().isPrimitive() && f.get(o) != null) {
+            open.add(f.get(o));
+          }
+        }
+      }
+    }
+    return new long[] {held.size(), elements};
+  }
+
+  /** What an object holds is made with it, and small beside the one room of all calls. */
+  private static void checkRoom() throws IllegalAccessException {
+    LoopTells x = new LoopTells();
+    long[] first = roomOf(x);
+    due("an object holds few: " + first[0] + ", " + first[1], first[0] < 400 && first[1] < 10000);
+    for (int call = 0; call < 512; call += 8) {
+      x.order(4096 * 5 + 32);
+      x.word(call % 8, call);
+      x.run(call % 16, 3, 1);
+      x.seen(call % 16, 3, 0, 1);
+      x.most();
+      x.pair(4);
+      x.cure(1);
+      x.tellers();
+    }
+    due("an object holds no more after 512 calls", Arrays.equals(first, roomOf(x)));
+  }
+
   private static void checkText(String source) {
     String code = source.replaceAll("(?s)/\\*.*?\\*/", "").replaceAll("//[^\n]*", "");
     for (String barred : BARRED) {
@@ -88,8 +159,10 @@ public final class LoopTellsLanguage {
     due("characters up to 255", source.chars().allMatch(c -> c < 256));
   }
 
-  public static void main(String[] args) throws IOException {
+  public static void main(String[] args) throws IOException, IllegalAccessException {
     checkFace();
+    checkSizes();
+    checkRoom();
     checkText(Files.readString(Path.of("src/main/java/LoopTells.java")));
     System.out.println(wrong == 0 ? "the face and the rules hold" : wrong + " do not hold");
     if (wrong != 0) {

@@ -1,65 +1,5 @@
 /** Each promise of the document by itself: ordinary inputs, edges, wrong inputs. */
-public final class LoopTellsPromises {
-  private static final int NO = -1001;
-  private static final int[] FAR = {Integer.MIN_VALUE, -1001, -1, 16, 17, 256, Integer.MAX_VALUE};
-
-  private static int wrong = 0;
-
-  private static void due(String what, long got, long want) {
-    if (got != want) {
-      wrong++;
-      System.out.println(what + " answered " + got + ", due is " + want);
-    }
-  }
-
-  private static void due(String what, boolean got, boolean want) {
-    due(what, got ? 1 : 0, want ? 1 : 0);
-  }
-
-  private static int order(int kind, int a, int b, int c) {
-    return 4096 * kind + 256 * a + 16 * b + c;
-  }
-
-  private static int end() {
-    return 0;
-  }
-
-  private static int number(int a, int c) {
-    return order(1, a, 0, c);
-  }
-
-  private static int add(int a, int b) {
-    return order(2, a, b, 0);
-  }
-
-  private static int times(int a, int b) {
-    return order(4, a, b, 0);
-  }
-
-  private static int load(int a, int b) {
-    return order(5, a, b, 0);
-  }
-
-  private static int store(int a, int b) {
-    return order(6, a, b, 0);
-  }
-
-  private static int branch(int a, int c) {
-    return order(7, a, 0, c);
-  }
-
-  private static int jump(int c) {
-    return order(8, 0, 0, c);
-  }
-
-  private static LoopTells with(int... orders) {
-    LoopTells x = new LoopTells();
-    for (int v : orders) {
-      x.order(v);
-    }
-    return x;
-  }
-
+public final class LoopTellsPromises extends Check {
   private static void promise1NewObject() {
     LoopTells x = new LoopTells();
     due("1 places", x.look(0), 0);
@@ -429,25 +369,12 @@ public final class LoopTellsPromises {
     x.change(1, add(0, 1));
     due("14 one", x.most(), 1);
     due("15 open inputs may tell", x.silent(), true);
-    LoopTells places = samePlacesOtherwise();
+    LoopTells places = sameLineElsewhere();
     due("15 places are not seen", places.silent(), true);
     places.even(1, true);
     due("15 but whether a line is", places.silent(), false);
     places.even(3, true);
     due("15 nor if both are even", places.silent(), true);
-  }
-
-  /** One line, the same for all secrets, but at place 3 if register 2 is 0, else at place 1. */
-  private static LoopTells samePlacesOtherwise() {
-    LoopTells x = with(branch(2, 3), load(0, 1), end(), load(0, 1));
-    x.watch(2, 1);
-    return x;
-  }
-
-  private static void pairIs(String name, LoopTells x, int... want) {
-    for (int what = 0; what < 5; what++) {
-      due(name + " " + what, x.pair(what), want[what]);
-    }
   }
 
   private static void promise16Pair() {
@@ -483,24 +410,6 @@ public final class LoopTellsPromises {
     pairIs("16 silent", answer, NO, NO, NO, NO, NO);
   }
 
-  private static void cureIs(String name, LoopTells x, int price, int set, int many) {
-    due(name + " price", x.cure(0), price);
-    due(name + " set", x.cure(1), set);
-    due(name + " how many", x.cure(2), many);
-  }
-
-  /** Costs that are the same with place 6 even, or with 1 and 2, or with 1, 2, 4 and 6. */
-  private static LoopTells twoWays() {
-    LoopTells x =
-        with(load(3, 2), times(1, 3), times(1, 3), load(3, 3), times(1, 3), load(3, 3), times(1, 3));
-    int[] words = {4, 13, 13, 13, 30, 7, 0, 2};
-    for (int i = 0; i < 8; i++) {
-      x.word(i, words[i]);
-    }
-    x.watch(9, 1);
-    return x;
-  }
-
   private static void promise17Cure() {
     cureIs("17 no places", new LoopTells(), 0, 0, 1);
     cureIs("17 the answer does not count", with(add(0, 2)), 0, 0, 2);
@@ -530,7 +439,7 @@ public final class LoopTellsPromises {
     least.price(1, 99);
     least.price(2, 98);
     cureIs("17 dear places", least, 98, 4, 12);
-    cureIs("17 sets may be worse than none", samePlacesOtherwise(), 0, 0, 8);
+    cureIs("17 sets may be worse than none", sameLineElsewhere(), 0, 0, 8);
     for (int far : FAR) {
       due("17 what " + far, x.cure(far), -1);
     }
@@ -567,7 +476,7 @@ public final class LoopTellsPromises {
     due("19 even places do not count", x.tellers(), 10);
     x.watch(12, 1);
     due("19 no branch", x.tellers(), 0);
-    due("19 places that tell only with others not even", samePlacesOtherwise().tellers(), 10);
+    due("19 places that tell only with others not even", sameLineElsewhere().tellers(), 10);
     LoopTells steps = with(branch(2, 2), end());
     steps.watch(1, 1);
     due("19 steps tell, whatever is even", steps.tellers(), 3);
@@ -595,9 +504,6 @@ public final class LoopTellsPromises {
     promise18Reached();
     promise19Tellers();
     due("the constant", LoopTells.NONE, -1);
-    System.out.println(wrong == 0 ? "all promises hold" : wrong + " answers are not as due");
-    if (wrong != 0) {
-      System.exit(1);
-    }
+    close();
   }
 }
