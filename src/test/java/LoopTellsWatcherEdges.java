@@ -254,6 +254,8 @@ public final class LoopTellsWatcherEdges extends Check {
     LoopTells two = watched(with(branch(1, 3), load(0, 2), end(), store(0, 2)), 2, 1);
     cureIs("told at another place for another open", two, 2, 2 + 8, 4);
     cureIs("told by being spent alone", spentAlone(), -1, -1, -1);
+    cureIs("the longest rows, all alike", with(branch(0, 0)), 0, 0, 2);
+    due("they tell nothing", with(branch(0, 0)).tellers(), 0);
     for (int p = 0; p < 8; p++) {
       for (int v : new int[] {times(1, 2), load(1, 2), store(1, 2), branch(2, p + 1)}) {
         LoopTells x = with(add(0, 1), add(0, 1), add(0, 1), add(0, 1), add(0, 1), add(0, 1), add(0, 1));
